@@ -77,7 +77,9 @@ public final class ModelRunsTest {
             case 11: CHECKS.due(name, x.both(a, b), m.both(a, b)); break;
             case 12: CHECKS.due(name, x.conditional(a, b), m.conditional(a, b)); break;
             case 13: CHECKS.due(name, x.typeOf(o), m.typeOf(o)); break;
-            case 14: CHECKS.due(name, Checks.unboxed(x, o, a), m.unboxed(o, a)); break;
+            case 14:
+                CHECKS.due(name, new Call("unboxed", o, a).answerOf(x), m.unboxed(o, a));
+                break;
             case 15: case 16: case 17: CHECKS.due(name, x.cast(o, a, b), m.cast(o, a, b)); break;
             default: CHECKS.due(name, x.count(c), m.count(c)); break;
         }
@@ -86,22 +88,26 @@ public final class ModelRunsTest {
     /** Every pair of types in every context, with as many types as there may be. */
     private static void allPairs() {
         for (int seed = 0; seed < 20; seed++) {
-            Random random = new Random(1000 + seed);
-            ConversionTables x = new ConversionTables();
-            Model model = new Model();
-            for (int i = 0; i < 100; i++) {
-                int[] p = {aType(random, model), aType(random, model), random.nextInt(8), 0};
-                compare(random.nextInt(3), x, model, p, 0);
+            for (int a = 0; a < 40; a++) {
+                pairsOf(a, new Random(1000 + seed));
             }
-            for (int a = 0; a < model.types.size(); a++) {
-                for (int b = 0; b < model.types.size(); b++) {
-                    for (int context = 0; context < 6; context++) {
-                        compare(7, x, model, new int[] {a, b, context, 0}, 0);
-                    }
-                    compare(6, x, model, new int[] {a, b, 0, 0}, 0);
-                    compare(12, x, model, new int[] {a, b, 0, 0}, 0);
-                }
+        }
+    }
+
+    // An object of its own for each type, since nothing is promised beyond 512 calls of one.
+    private static void pairsOf(int a, Random random) {
+        ConversionTables x = new ConversionTables();
+        Model model = new Model();
+        for (int i = 0; i < 100; i++) {
+            int[] p = {aType(random, model), aType(random, model), random.nextInt(8), 0};
+            compare(random.nextInt(3), x, model, p, 0);
+        }
+        for (int b = 0; b < model.types.size(); b++) {
+            for (int context = 0; context < 6; context++) {
+                compare(7, x, model, new int[] {a, b, context, 0}, 0);
             }
+            compare(6, x, model, new int[] {a, b, 0, 0}, 0);
+            compare(12, x, model, new int[] {a, b, 0, 0}, 0);
         }
     }
 
@@ -439,9 +445,9 @@ public final class ModelRunsTest {
             }
             Thing thing = objects.get(object);
             if (thing.type == 22) {
-                return Checks.NULL_POINTER;
+                return Names.NULL_POINTER;
             }
-            return thing.type == box ? Long.toString(thing.bits) : Checks.CLASS_CAST;
+            return thing.type == box ? Long.toString(thing.bits) : Names.CLASS_CAST;
         }
 
         int cast(int object, int as, int to) {

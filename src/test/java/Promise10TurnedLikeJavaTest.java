@@ -1,75 +1,14 @@
 import java.util.Random;
 
 /** Promise 10: turned, beside what Java itself makes of the same numbers. */
-public final class TurnedTest {
+public final class Promise10TurnedLikeJavaTest {
     private static final Checks CHECKS = new Checks();
-    private static final long FLOAT_NAN = 0x7fc00000L;
-    private static final long DOUBLE_NAN = 0x7ff8000000000000L;
 
     public static void main(String[] args) {
-        refused();
-        edges();
         ends();
         manyOfEach();
         halves();
         CHECKS.end();
-    }
-
-    private static void due(ConversionTables x, int from, long bits, int to, long want) {
-        CHECKS.due("10 turned(" + from + ", " + bits + ", " + to + ")", x.turned(from, bits, to),
-                want);
-    }
-
-    private static void refused() {
-        ConversionTables x = new ConversionTables();
-        x.newClass(-1, -1, false);
-        for (int t : new int[] {-1, 0, 8, 9, 12, 15, 16, 17, 22, 23, 24, Integer.MAX_VALUE}) {
-            due(x, t, 1, 4, -1);
-            due(x, 4, 1, t, -1);
-            due(x, 2, 1000, t, -1);
-        }
-        long[][] ends = {{0, 65535}, {-128, 127}, {-32768, 32767},
-            {Integer.MIN_VALUE, Integer.MAX_VALUE}};
-        for (int from = 1; from <= 4; from++) {
-            for (int to = 1; to <= 7; to++) {
-                due(x, from, ends[from - 1][0] - 1, to, -2);
-                due(x, from, ends[from - 1][1] + 1, to, -2);
-            }
-            due(x, from, ends[from - 1][0], 5, ends[from - 1][0]);
-            due(x, from, ends[from - 1][1], 5, ends[from - 1][1]);
-        }
-        due(x, 6, 0xffffffffL, 4, -2);
-        due(x, 6, Integer.MIN_VALUE - 1L, 6, -2);
-        due(x, 6, Integer.MIN_VALUE, 6, Integer.MIN_VALUE);
-        due(x, 4, -1, 5, -1);
-        due(x, 5, -2, 4, -2);
-    }
-
-    private static void edges() {
-        ConversionTables x = new ConversionTables();
-        for (long nan : new long[] {0x7f800001L, 0x7fc00001L, 0x7fffffffL, (int) 0xff800001,
-            (int) 0xffc00000, -1}) {
-            due(x, 6, nan, 6, FLOAT_NAN);
-            due(x, 6, nan, 7, DOUBLE_NAN);
-            for (int to = 1; to <= 5; to++) {
-                due(x, 6, nan, to, 0);
-            }
-        }
-        for (long nan : new long[] {0x7ff0000000000001L, 0x7fffffffffffffffL,
-            0xfff0000000000001L, -1L}) {
-            due(x, 7, nan, 7, DOUBLE_NAN);
-            due(x, 7, nan, 6, FLOAT_NAN);
-            for (int to = 1; to <= 5; to++) {
-                due(x, 7, nan, to, 0);
-            }
-        }
-        due(x, 7, Double.doubleToLongBits(Double.POSITIVE_INFINITY), 6, 0x7f800000L);
-        due(x, 6, Float.floatToIntBits(Float.NEGATIVE_INFINITY), 7, 0xfff0000000000000L);
-        due(x, 7, Double.doubleToLongBits(-0.0), 6, Integer.MIN_VALUE);
-        due(x, 6, Integer.MIN_VALUE, 7, Long.MIN_VALUE);
-        due(x, 7, Long.MIN_VALUE, 5, 0);
-        due(x, 4, 0, 6, 0);
-        due(x, 5, 0, 7, 0);
     }
 
     private static void ends() {
@@ -87,17 +26,16 @@ public final class TurnedTest {
             1L << 31, (1L << 53) - 1, 1L << 53, (1L << 53) + 1, (1L << 53) + 3, (1L << 54) + 2,
             (1L << 54) + 6, Long.MAX_VALUE, Long.MAX_VALUE - 511, Long.MAX_VALUE - 512,
             Long.MAX_VALUE - (1L << 38), Long.MIN_VALUE};
-        ConversionTables x = new ConversionTables();
         for (double value : near) {
             for (double v : new double[] {value, -value}) {
-                dueAll(x, 7, Double.doubleToLongBits(v));
-                dueAll(x, 6, Float.floatToIntBits((float) v));
+                dueAll(7, Double.doubleToLongBits(v));
+                dueAll(6, Float.floatToIntBits((float) v));
             }
         }
         for (long value : whole) {
             for (long v : new long[] {value, -value, value + 1, value - 1}) {
                 for (int from = 1; from <= 5; from++) {
-                    dueAll(x, from, cut(from, v));
+                    dueAll(from, cut(from, v));
                 }
             }
         }
@@ -105,43 +43,41 @@ public final class TurnedTest {
 
     private static void manyOfEach() {
         Random random = new Random(20261116);
-        ConversionTables x = new ConversionTables();
         for (int i = 0; i < 60000; i++) {
             long bits = random.nextLong() >> random.nextInt(64);
             for (int from = 1; from <= 5; from++) {
-                dueAll(x, from, cut(from, bits));
+                dueAll(from, cut(from, bits));
             }
-            dueAll(x, 6, random.nextInt());
-            dueAll(x, 7, random.nextLong());
+            dueAll(6, random.nextInt());
+            dueAll(7, random.nextLong());
             // Most doubles lie beyond long and float; these have exponents near to their ends.
             long exponent = 1023 - 160 + random.nextInt(300);
             long near = random.nextLong() & 0x800fffffffffffffL | exponent << 52;
-            dueAll(x, 7, near);
+            dueAll(7, near);
         }
     }
 
     /** Numbers that lie just in the middle of two floats, and their neighbours. */
     private static void halves() {
         Random random = new Random(17);
-        ConversionTables x = new ConversionTables();
         for (int i = 0; i < 30000; i++) {
             float low = Float.intBitsToFloat(random.nextInt(0x7f7fffff));
             double middle = ((double) low + (double) Math.nextUp(low)) / 2;
             for (double v : new double[] {middle, Math.nextUp(middle), Math.nextDown(middle)}) {
-                dueAll(x, 7, Double.doubleToLongBits(v));
-                dueAll(x, 7, Double.doubleToLongBits(-v));
+                dueAll(7, Double.doubleToLongBits(v));
+                dueAll(7, Double.doubleToLongBits(-v));
             }
             int shift = random.nextInt(40);
             long whole = ((random.nextInt() & 0xffffffL | 0x800000L) << 1 | 1) << shift;
             for (long v : new long[] {whole, whole - 1, whole + 1}) {
-                dueAll(x, 5, v);
-                dueAll(x, 5, -v);
+                dueAll(5, v);
+                dueAll(5, -v);
             }
             long wide = (random.nextLong() >>> 11 | 1L << 52) << 1 | 1;
             wide <<= random.nextInt(10);
             for (long v : new long[] {wide, wide - 1, wide + 1}) {
-                dueAll(x, 5, v);
-                dueAll(x, 5, -v);
+                dueAll(5, v);
+                dueAll(5, -v);
             }
         }
     }
@@ -161,12 +97,15 @@ public final class TurnedTest {
         }
     }
 
-    private static void dueAll(ConversionTables x, int from, long bits) {
+    // An object of its own for each number, since nothing is promised beyond 512 calls of one.
+    private static void dueAll(int from, long bits) {
+        ConversionTables x = new ConversionTables();
         for (int to = 1; to <= 7; to++) {
             long got = x.turned(from, bits, to);
             long want = byJava(from, bits, to);
+            // The text of a call is dear, so only the wrong ones and one of each number are told.
             if (got != want || to == 1) {
-                due(x, from, bits, to, want);
+                CHECKS.due("promise 10: turned(" + from + ", " + bits + ", " + to + ")", got, want);
             }
         }
     }

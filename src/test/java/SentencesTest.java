@@ -1,0 +1,44 @@
+import java.io.File;
+import java.io.IOException;
+import java.lang.reflect.Method;
+import java.nio.file.Files;
+import java.nio.file.Path;
+import java.util.Arrays;
+import java.util.List;
+
+/** The words that the cases quote stand in the document, and each of its promises has cases. */
+public final class SentencesTest {
+    private static final Path DOCUMENT = Path.of("../shared/DOC.md");
+    private static final File TESTS = new File("src/test/java");
+    private static final int PROMISES = 19;
+
+    public static void main(String[] args) throws IOException, ClassNotFoundException {
+        Checks checks = new Checks();
+        String document = Files.readString(DOCUMENT).replaceAll("\\s+", " ");
+        for (int promise = 1; promise <= PROMISES; promise++) {
+            int cases = 0;
+            for (String name : testsOf(promise)) {
+                cases += quoted(checks, Class.forName(name), document);
+            }
+            checks.due("promise " + promise + ": has cases", cases > 0 ? "yes" : "no", "yes");
+        }
+        checks.end();
+    }
+
+    private static List<String> testsOf(int promise) {
+        String start = String.format("Promise%02d", promise);
+        String[] files = TESTS.list((directory, name) -> name.startsWith(start));
+        return files == null ? List.of()
+                : Arrays.stream(files).map(name -> name.replace(".java", "")).sorted().toList();
+    }
+
+    private static int quoted(Checks checks, Class<?> test, String document) {
+        List<Method> cases = Cases.of(test);
+        for (Method method : cases) {
+            String words = method.getAnnotation(Says.class).value();
+            String about = test.getSimpleName() + "." + method.getName() + ": " + words;
+            checks.due(about, document.contains(words) ? "said" : "not said", "said");
+        }
+        return cases.size();
+    }
+}
